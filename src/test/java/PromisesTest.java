@@ -370,6 +370,12 @@ public final class PromisesTest {
             due("keep(" + far + ")", x.keep(far), BAD);
         }
         due("all", of("a small", "b large").keep(0), 3);
+        WishLimits ten = tenOf("a small");
+        due("all ten", ten.keep(0), 1023);
+        for (int k = 0; k < 10; k++) {
+            due("weigh(" + k + ", 9)", ten.weigh(k, 9), 1);
+        }
+        due("the greatest weight", ten.keep(1), 90);
     }
 
     private static void could() {
@@ -416,6 +422,7 @@ public final class PromisesTest {
             due("broken d", x.broken(0, 0, 0, wrong, 0), BAD);
             due("broken e", x.broken(0, 0, 0, 0, wrong), BAD);
         }
+        due("all ten", tenOf("e large").broken(0, 0, 0, 0, 999), 1023);
         WishLimits clash = of("a is 1 mm", "a is 2 mm");
         due("told of a clash too", clash.broken(1, 100000, 100000, 0, 0), 2);
     }
@@ -432,6 +439,8 @@ public final class PromisesTest {
         due("the length itself", x.with(1, 77, 1), 77);
         due("the length itself", x.with(1, 5, 1), CANNOT);
         due("another length", x.with(3, 77, 4), 0);
+        due("the least value", x.with(3, 0, 3), 0);
+        due("the greatest value", x.with(3, 100000, 3), 100000);
         due("the range stays", x.range(0, 1), 99998);
         due("with(5, 0, 0)", x.with(5, 0, 0), BAD);
         due("with(-1, 0, 0)", x.with(-1, 0, 0), BAD);
@@ -589,6 +598,13 @@ public final class PromisesTest {
         dueFault("a is 5.5.5 cm", 8, 1);
         dueFault("a is -5 cm", 5, 1);
         dueFault("a is 5 km", 7, 1);
+        dueFault("a is : mm", 5, 1);
+        dueFault("a is / mm", 5, 1);
+        dueFault("a is 5: mm", 6, 1);
+        dueFault("a is 5/ mm", 6, 1);
+        dueFault("a is 5.: cm", 7, 1);
+        dueFault("` is 5 mm", 0, 1);
+        dueFault("a below `", 8, 1);
         dueFault("a ab", 4, 1);
         dueFault("a abx", 4, 1);
         dueFault("a aboux", 6, 1);
