@@ -319,7 +319,7 @@ public final class WishLimits {
     }
 
     private static boolean isLength(int length) {
-        return isWithin(length, 0, LENGTHS - 1);
+        return length >= 0 && length < LENGTHS;
     }
 
     private boolean isSentence(int sentence) {
@@ -463,10 +463,14 @@ public final class WishLimits {
 
         private boolean holds(int[] values, int[] settings) {
             if (isOrder()) {
-                return values[lowerOne()] < values[upperOne()];
+                return valueOf(lowerOne(), values) < valueOf(upperOne(), values);
             }
-            int value = values[first];
+            int value = valueOf(first, values);
             return value >= leastAlone(settings) && value <= greatestAlone(settings);
+        }
+
+        private static int valueOf(int length, int[] values) {
+            return length >= 0 && length < values.length ? values[length] : 0;
         }
     }
 

@@ -19,10 +19,15 @@ public final class LanguageTest {
             INT + "clearText 0", INT + "fault 1");
     private static final Set<String> CONSTANTS = Set.of("INVALID_ARGUMENT", "NOT_POSSIBLE",
             "LIMIT_REACHED", "NOT_FOUND");
-    private static final String[] FORBIDDEN = {"^package ", "^import ", "\\bthrow\\b", "\\bcatch\\b",
-        "\\bfinally\\b", "->", "::", "\\bassert\\b", "\\bsynchronized\\b", "\\bprotected\\b",
-        "\\bSystem\\.(?!arraycopy)", "\\bFloat\\.", "\\bDouble\\.", "Exact\\(", "\\bordinal\\(",
-        "[^\\x00-\\x7f]"};
+    private static final String[] FORBIDDEN = {"^\\s*package\\b",
+        "^\\s*import (?!java\\.util\\.(ArrayList|List|Arrays|Iterator|NoSuchElementException);)",
+        "\\bfinally\\b", "\\)\\s*->", "=\\s*\\w+\\s*->", "::", "\\bassert\\b", "\\bsynchronized\\b",
+        "\\bprotected\\b", "\\bSystem\\.(?!arraycopy)", "\\bFloat\\.", "\\bDouble\\.", "Exact\\(",
+        "\\bordinal\\(", "[^\\x00-\\x7f]", "\\bgetMessage\\b",
+        "\\bcatch\\b.*(NullPointer|ArrayIndex|StringIndex|ClassCast|NegativeArray|ArrayStore|\\(Exc|Thr)"};
+    private static final int CALLS = 512;
+    // The room of a run holds 7.3 million fields and elements: this is less than a byte for each.
+    private static final long BYTES = 7_000_000;
 
     private static final Checks checks = new Checks();
 
@@ -80,11 +85,25 @@ public final class LanguageTest {
                 !Modifier.isStatic(modifiers) || Modifier.isFinal(modifiers));
     }
 
+    /** At most seven parameters of a method, and some twenty fields beside the constants. */
+    private static void sizes(Class<?> part) {
+        for (Method method : part.getDeclaredMethods()) {
+            checks.holds(method + " has few parameters", method.getParameterCount() <= 7);
+        }
+        int fields = 0;
+        for (Field field : part.getDeclaredFields()) {
+            fields += Modifier.isStatic(field.getModifiers()) ? 0 : 1;
+        }
+        checks.holds(part + " has few fields: " + fields, fields <= 20);
+    }
+
     private static void insides() {
         Class<?>[] insides = WishLimits.class.getDeclaredClasses();
         checks.holds("some twelve classes", insides.length <= 12);
+        sizes(WishLimits.class);
         for (Class<?> inside : insides) {
             checks.holds(inside + " is static", Modifier.isStatic(inside.getModifiers()));
+            sizes(inside);
             for (Method method : inside.getDeclaredMethods()) {
                 checks.holds(method + " is not public", !Modifier.isPublic(method.getModifiers()));
                 noPublicName(method);
@@ -96,52 +115,50 @@ public final class LanguageTest {
     }
 
     private static void words() throws IOException {
-        int number = 0;
-        for (String line : Files.readAllLines(Path.of("src/main/java/WishLimits.java"))) {
-            number++;
+        String text = Files.readString(Path.of("src/main/java/WishLimits.java"));
+        String bare = Pattern.compile("/\\*.*?\\*/|//[^\n]*", Pattern.DOTALL).matcher(text).replaceAll("");
+        for (String line : bare.split("\n")) {
             for (String word : FORBIDDEN) {
-                checks.holds("line " + number + " has no " + word,
+                checks.holds("no " + word + " in: " + line,
                         !Pattern.compile(word).matcher(line).find());
             }
         }
     }
 
-    /** No call makes an object: all rows are made in the constructor and used again. */
+    /** The dearest calls of a whole run stay far below the room of a run. */
     private static void room() {
-        WishLimits wishes = Checks.of("a below b", "b below c", "c below d", "d below e",
-                "e at most 9 cm", "a at least 8 cm", "b about 8 cm", "c small", "d from 1 cm to 1 m",
-                "a at most 1 m");
         var threads = (com.sun.management.ThreadMXBean)
                 java.lang.management.ManagementFactory.getThreadMXBean();
-        long before = threads.getCurrentThreadAllocatedBytes();
-        for (int k = 0; k < 10; k++) {
-            callAll(wishes);
+        for (int dearest = 0; dearest < 9; dearest++) {
+            long before = threads.getCurrentThreadAllocatedBytes();
+            run(dearest);
+            long made = threads.getCurrentThreadAllocatedBytes() - before;
+            checks.holds("512 calls, kind " + dearest + ": " + made + " bytes", made < BYTES);
         }
-        long made = threads.getCurrentThreadAllocatedBytes() - before;
-        checks.holds("the calls make no objects: " + made + " bytes", made < 4096);
     }
 
-    private static void callAll(WishLimits wishes) {
+    private static void run(int dearest) {
+        WishLimits wishes = Checks.of("a below b", "b below c", "c below d", "d below e",
+                "e at most 9 cm", "a at least 8 cm", "b about 8 cm", "c small", "d from 1 cm to 1 m",
+                "e at most 1 m");
         Checks.write(wishes, "e from 1.0 cm to 100.0 m");
-        wishes.set(0, 20);
-        wishes.weigh(1, 2);
-        wishes.takeBack(9);
-        wishes.say();
-        wishes.could();
-        wishes.clash();
-        wishes.clashes();
-        wishes.keep(0);
-        wishes.broken(1, 2, 3, 4, 5);
-        wishes.fault(0);
-        wishes.undo();
-        wishes.undo();
-        for (int k = 0; k < 5; k++) {
-            wishes.range(k, 0);
-            wishes.reason(k, 1);
-            wishes.middle(k, 2);
-            wishes.count(k);
-            wishes.with(k, 82, 0);
-            wishes.sentenceOf(k, 6);
+        // 139 signs, eleven times clearText() and ten times say(): 160 calls are gone.
+        for (int call = 161; call <= CALLS; call++) {
+            callOf(wishes, dearest);
+        }
+    }
+
+    private static int callOf(WishLimits wishes, int dearest) {
+        switch (dearest) {
+            case 0: return wishes.clash();
+            case 1: return wishes.clashes();
+            case 2: return wishes.keep(0);
+            case 3: return wishes.reason(4, 0);
+            case 4: return wishes.could();
+            case 5: return wishes.fault(0);
+            case 6: return wishes.weigh(9, 3);
+            case 7: return wishes.middle(4, 2);
+            default: return wishes.broken(1, 2, 3, 4, 5);
         }
     }
 }

@@ -33,7 +33,6 @@ public final class PromisesTest {
         clearText();
         faultOfSigns();
         faultOfValues();
-        errorsChangeNothing();
         checks.end();
     }
 
@@ -50,14 +49,11 @@ public final class PromisesTest {
     }
 
     private static WishLimits tenOf(String sentence) {
-        WishLimits x = new WishLimits();
-        for (int k = 0; k < 10; k++) {
-            due("say() of ten", said(x, sentence), k);
-        }
-        return x;
+        return Checks.tenOf(sentence);
     }
 
     private static void newObject() {
+        checks.sentence("Promise 1: Creates lengths without wishes.");
         due("INVALID_ARGUMENT", BAD, -1000001);
         due("NOT_POSSIBLE", CANNOT, -1000002);
         due("LIMIT_REACHED", FULL, -1000003);
@@ -89,6 +85,8 @@ public final class PromisesTest {
     }
 
     private static void say() {
+        checks.sentence("Promise 2: Says the sentence of the text, which stays. Returns its "
+                + "number; NOT_POSSIBLE if the text has a fault; LIMIT_REACHED if there are 10.");
         WishLimits x = new WishLimits();
         due("say()", said(x, "a is 5 mm"), 0);
         due("the text stays", x.count(5), 9);
@@ -109,6 +107,8 @@ public final class PromisesTest {
     }
 
     private static void takeBack() {
+        checks.sentence("Promise 3: Takes a sentence back. Returns how many there are then; "
+                + "INVALID_ARGUMENT.");
         WishLimits x = of("a is 1 mm", "b is 2 mm", "c is 3 mm", "d is 4 mm");
         due("weigh(2, 7)", x.weigh(2, 7), 1);
         due("takeBack(4)", x.takeBack(4), BAD);
@@ -130,6 +130,8 @@ public final class PromisesTest {
     }
 
     private static void weigh() {
+        checks.sentence("Promise 4: Sets the weight of a sentence. weight: 1 to 9. Returns what "
+                + "it was; INVALID_ARGUMENT if an argument is out of range.");
         WishLimits x = of("a is 1 mm", "b is 2 mm");
         due("1 at first", x.weigh(1, 9), 1);
         due("what it was", x.weigh(1, 1), 9);
@@ -149,6 +151,8 @@ public final class PromisesTest {
     }
 
     private static void set() {
+        checks.sentence("Promise 5: Sets a setting. what: 0 to 2; value: a value in its range. "
+                + "Returns what it was; INVALID_ARGUMENT if an argument is out of range.");
         WishLimits x = new WishLimits();
         due("set(0, 0)", x.set(0, 0), 10);
         due("set(0, 50)", x.set(0, 50), 0);
@@ -172,6 +176,9 @@ public final class PromisesTest {
     }
 
     private static void sentenceOf() {
+        checks.sentence("Promise 6: Returns something of a sentence; INVALID_ARGUMENT if an "
+                + "argument is out of range; NOT_FOUND for 2, 3, 4 and 8 if it has no such "
+                + "thing.");
         WishLimits x = of("a at least 3 cm", "b at most 2 m", "c is 7 mm", "d from 5 cm to 1 m",
                 "e about 20 mm", "a below b", "b above e", "c small", "d large");
         int[][] want = {
@@ -200,6 +207,8 @@ public final class PromisesTest {
     }
 
     private static void sentenceOfAlone() {
+        checks.sentence("Promise 6: 6: the least that x is by it alone; 7: the greatest that x "
+                + "is by it alone (with kinds 5 and 6: y being any length)");
         WishLimits x = of("a about 99 m", "b about 9 mm", "c about 0 mm", "d small", "e large");
         due("the greatest length at most", x.sentenceOf(0, 7), 100000);
         due("its least", x.sentenceOf(0, 6), 89100);
@@ -217,6 +226,9 @@ public final class PromisesTest {
     }
 
     private static void range() {
+        checks.sentence("Promise 7: Tells the range of a length: which values it can have, if "
+                + "all sentences hold. INVALID_ARGUMENT if an argument is out of range; "
+                + "NOT_POSSIBLE if all sentences cannot be together.");
         WishLimits x = of("a at least 3 cm", "a at most 2 m", "b from 1 cm to 2 cm", "c about 1 m");
         due("range(0, 0)", x.range(0, 0), 30);
         due("range(0, 1)", x.range(0, 1), 2000);
@@ -262,6 +274,9 @@ public final class PromisesTest {
     }
 
     private static void middle() {
+        checks.sentence("Promise 8: the least and the greatest value, as floats in mm, added, "
+                + "divided by 2 times the millimeters of the unit. INVALID_ARGUMENT if an "
+                + "argument is out of range; NOT_POSSIBLE if all sentences cannot be together.");
         WishLimits x = of("a from 0 mm to 1 mm", "b is 0 mm", "c from 3 mm to 99999 mm",
                 "d is 7 mm");
         int[] units = {1, 10, 1000};
@@ -291,6 +306,10 @@ public final class PromisesTest {
     }
 
     private static void reason() {
+        checks.sentence("Promise 9: the fewest sentences by which, were they the only ones, this "
+                + "end would be the same, of several such sets the lowest. Returns the set (0 if "
+                + "it is 0, or 100000, without any); INVALID_ARGUMENT if an argument is out of "
+                + "range; NOT_POSSIBLE if all sentences cannot be together.");
         WishLimits x = of("a at least 3 cm", "a at least 5 cm", "a from 5 cm to 1 m", "b above a",
                 "b at least 51 mm", "c small");
         due("one of two alike: the lowest", x.reason(0, 0), 2);
@@ -322,6 +341,8 @@ public final class PromisesTest {
     }
 
     private static void clash() {
+        checks.sentence("Promise 10: Finds the fewest sentences that cannot be together, of "
+                + "several such sets the lowest. NOT_FOUND if all sentences can be together.");
         WishLimits x = of("a at least 3 cm", "b below a", "c below b", "a at most 31 mm",
                 "c at least 3 cm");
         due("four with an order", x.clash(), 30);
@@ -338,6 +359,8 @@ public final class PromisesTest {
     }
 
     private static void clashes() {
+        checks.sentence("Promise 11: Counts the sets of sentences that cannot be together, but "
+                + "can if any one of them is left out.");
         WishLimits x = of("a is 1 mm", "b is 1 mm", "b is 2 mm", "a is 2 mm", "a below b");
         due("clashes()", x.clashes(), 5);
         due("no clash", of("a is 1 mm", "b is 1 mm").clashes(), 0);
@@ -355,6 +378,9 @@ public final class PromisesTest {
     }
 
     private static void keep() {
+        checks.sentence("Promise 12: Finds the sentences that can be together whose weights "
+                + "together are greatest, of several such sets the lowest. INVALID_ARGUMENT if "
+                + "what is out of range.");
         WishLimits x = of("a is 1 mm", "a is 2 mm", "a is 1 mm", "b small");
         due("the heaviest", x.keep(0), 13);
         due("its weight", x.keep(1), 3);
@@ -379,6 +405,8 @@ public final class PromisesTest {
     }
 
     private static void could() {
+        checks.sentence("Promise 13: Returns 1 if it can, otherwise 0; NOT_POSSIBLE if the text "
+                + "has a fault, or all sentences cannot be together without it.");
         WishLimits x = of("a at least 5 cm");
         due("the same", x.could(), 1);
         Checks.write(x, "a at most 49 mm");
@@ -404,6 +432,8 @@ public final class PromisesTest {
     }
 
     private static void broken() {
+        checks.sentence("Promise 14: Returns the set of sentences that do not hold; "
+                + "INVALID_ARGUMENT if an argument is out of range.");
         WishLimits x = of("a at least 3 cm", "b at most 2 m", "c is 7 mm", "d from 5 cm to 1 m",
                 "e about 20 mm", "a below b", "b above e", "c small", "d large");
         due("none", x.broken(30, 2000, 7, 1000, 22), 0);
@@ -428,6 +458,10 @@ public final class PromisesTest {
     }
 
     private static void with() {
+        checks.sentence("Promise 15: Returns the least value of the other length, if the first "
+                + "one has this value (the value itself, if both are the same); INVALID_ARGUMENT "
+                + "if an argument is out of range; NOT_POSSIBLE if all sentences cannot be "
+                + "together with it.");
         WishLimits x = of("a below b", "b below c", "a at least 5 mm");
         due("with(0, 5, 2)", x.with(0, 5, 2), 7);
         due("with(0, 90, 2)", x.with(0, 90, 2), 92);
@@ -458,6 +492,8 @@ public final class PromisesTest {
     }
 
     private static void count() {
+        checks.sentence("Promise 16: Returns the number; INVALID_ARGUMENT if what is out of "
+                + "range. 3: NOT_POSSIBLE if all cannot be together.");
         WishLimits x = of("a about 5 cm", "b small", "c large", "d is 5 mm", "e below c");
         due("count(0)", x.count(0), 5);
         due("count(1)", x.count(1), 3);
@@ -480,6 +516,9 @@ public final class PromisesTest {
     }
 
     private static void undo() {
+        checks.sentence("Promise 17: Restores the latest state of the history, which is removed "
+                + "from it. Returns the number of states that are left in the history; "
+                + "NOT_POSSIBLE if it is empty.");
         WishLimits x = new WishLimits();
         due("nothing to undo", x.undo(), CANNOT);
         due("typed", x.type('a'), 1);
@@ -528,6 +567,9 @@ public final class PromisesTest {
     }
 
     private static void type() {
+        checks.sentence("Promise 18: Appends a character to the text. character: 32 to 126. "
+                + "Returns the length of the text; INVALID_ARGUMENT if character is out of "
+                + "range; LIMIT_REACHED if it has 40 characters.");
         WishLimits x = new WishLimits();
         due("type(31)", x.type(31), BAD);
         due("type(127)", x.type(127), BAD);
@@ -546,6 +588,7 @@ public final class PromisesTest {
     }
 
     private static void clearText() {
+        checks.sentence("Promise 19: Empties the text. Returns the length it had.");
         WishLimits x = new WishLimits();
         due("clearText()", x.clearText(), 0);
         Checks.write(x, "a small");
@@ -568,6 +611,8 @@ public final class PromisesTest {
     }
 
     private static void faultOfSigns() {
+        checks.sentence("Promise 20: Tells about the fault of the text. INVALID_ARGUMENT if what "
+                + "is out of range; NOT_FOUND if the text has no fault.");
         String[] right = {"a at least 0 mm", "b at most 000001 cm", "c is 100000.0 mm", "d is 100.0 m",
             "e from 1 m to 1 m", "a from 0.1 cm to 0.1 m", "a about 5 mm", "a below e", "e above d",
             "a small", "b large"};
@@ -650,25 +695,5 @@ public final class PromisesTest {
         due("2.5 cm", x.sentenceOf(1, 2), 25);
         due("0.3 m", x.sentenceOf(1, 3), 300);
         due("the first one's unit", x.sentenceOf(1, 8), 1);
-    }
-
-    private static void errorsChangeNothing() {
-        WishLimits x = of("a is 1 mm", "a is 2 mm");
-        x.takeBack(2);
-        x.weigh(0, 0);
-        x.weigh(2, 1);
-        x.set(0, 51);
-        x.set(3, 0);
-        x.type(31);
-        Checks.write(x, "a is ");
-        x.say();
-        x.could();
-        x.range(0, 0);
-        x.undo();
-        due("the history is as it was", x.count(4), 1);
-        due("the sentence is as it was", x.sentenceOf(0, 5), 1);
-        due("the setting is as it was", x.count(20), 10);
-        due("the text is as it was", x.count(5), 5);
-        due("one sentence is left", x.count(0), 1);
     }
 }
