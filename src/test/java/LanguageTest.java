@@ -1,12 +1,18 @@
 import java.io.IOException;
+import java.lang.reflect.Array;
 import java.lang.reflect.Constructor;
 import java.lang.reflect.Field;
 import java.lang.reflect.Method;
 import java.lang.reflect.Modifier;
 import java.nio.file.Files;
 import java.nio.file.Path;
+import java.util.ArrayDeque;
+import java.util.Collections;
+import java.util.Deque;
+import java.util.IdentityHashMap;
 import java.util.Set;
 import java.util.TreeSet;
+import java.util.regex.Matcher;
 import java.util.regex.Pattern;
 
 /** The rules of ../shared/LANGUAGE.md that a program can look at: the face, the words, the room. */
@@ -28,15 +34,26 @@ public final class LanguageTest {
     private static final int CALLS = 512;
     // The room of a run holds 7.3 million fields and elements: this is less than a byte for each.
     private static final long BYTES = 7_000_000;
+    // So many new objects, kept all at once, must find room in one run.
+    private static final int OBJECTS_OF_A_RUN = 512;
+    private static final long MOST_OBJECTS = 600_000;
+    private static final long MOST_ELEMENTS = 7_300_000;
+    private static final int MOST_LINES = 60;
+    private static final Pattern METHOD = Pattern.compile(
+            "^( +)(?:private|public)[^=;]*\\([^;]*\\) \\{\n(.*?)^\\1\\}",
+            Pattern.DOTALL | Pattern.MULTILINE);
 
     private static final Checks checks = new Checks();
 
-    public static void main(String[] args) throws IOException {
+    public static void main(String[] args) throws IOException, IllegalAccessException {
         face();
         fields();
         insides();
         words();
+        lines();
         room();
+        roomOfObjects();
+        nothingIsMade();
         checks.end();
     }
 
@@ -114,8 +131,12 @@ public final class LanguageTest {
         }
     }
 
+    private static String source() throws IOException {
+        return Files.readString(Path.of("src/main/java/WishLimits.java"));
+    }
+
     private static void words() throws IOException {
-        String text = Files.readString(Path.of("src/main/java/WishLimits.java"));
+        String text = source();
         String bare = Pattern.compile("/\\*.*?\\*/|//[^\n]*", Pattern.DOTALL).matcher(text).replaceAll("");
         for (String line : bare.split("\n")) {
             for (String word : FORBIDDEN) {
@@ -123,6 +144,99 @@ public final class LanguageTest {
                         !Pattern.compile(word).matcher(line).find());
             }
         }
+    }
+
+    /** Methods stay short: some sixty lines. */
+    private static void lines() throws IOException {
+        Matcher method = METHOD.matcher(source());
+        int found = 0;
+        while (method.find()) {
+            found++;
+            String head = method.group().substring(0, method.group().indexOf('\n')).strip();
+            long lines = method.group(2).lines().count();
+            checks.holds(head + " has few lines: " + lines, lines <= MOST_LINES);
+        }
+        int due = WishLimits.class.getDeclaredMethods().length + 1;
+        for (Class<?> inside : WishLimits.class.getDeclaredClasses()) {
+            due += inside.getDeclaredMethods().length;
+        }
+        checks.holds("all methods are looked at: " + found, found >= due);
+    }
+
+    /** Counts the objects, fields and elements that a new object is made of. */
+    private static void roomOfObjects() throws IllegalAccessException {
+        Set<Object> seen = Collections.newSetFromMap(new IdentityHashMap<>());
+        Deque<Object> ahead = new ArrayDeque<>();
+        ahead.add(new WishLimits());
+        long elements = 0;
+        while (!ahead.isEmpty()) {
+            Object object = ahead.remove();
+            if (seen.add(object)) {
+                elements += object.getClass().isArray() ? elementsOf(object, ahead)
+                        : fieldsOf(object, ahead);
+            }
+        }
+        checks.holds("a new object: " + seen.size() + " objects and arrays",
+                seen.size() * (long) OBJECTS_OF_A_RUN <= MOST_OBJECTS);
+        checks.holds("a new object: " + elements + " fields and elements",
+                elements * OBJECTS_OF_A_RUN <= MOST_ELEMENTS);
+    }
+
+    private static int elementsOf(Object array, Deque<Object> ahead) {
+        int length = Array.getLength(array);
+        if (!array.getClass().getComponentType().isPrimitive()) {
+            for (int k = 0; k < length; k++) {
+                addIfThere(Array.get(array, k), ahead);
+            }
+        }
+        return length;
+    }
+
+    private static int fieldsOf(Object object, Deque<Object> ahead) throws IllegalAccessException {
+        int fields = 0;
+        for (Field field : object.getClass().getDeclaredFields()) {
+            if (!Modifier.isStatic(field.getModifiers())) {
+                fields++;
+                field.setAccessible(true);
+                if (!field.getType().isPrimitive()) {
+                    addIfThere(field.get(object), ahead);
+                }
+            }
+        }
+        return fields;
+    }
+
+    private static void addIfThere(Object object, Deque<Object> ahead) {
+        if (object != null) {
+            ahead.add(object);
+        }
+    }
+
+    /** No call makes an object or an array: what a run makes is what its constructors make. */
+    private static void nothingIsMade() {
+        var threads = (com.sun.management.ThreadMXBean)
+                java.lang.management.ManagementFactory.getThreadMXBean();
+        // Of some rounds the least one: the machine itself may make something in one of them.
+        long least = Long.MAX_VALUE;
+        for (int round = 0; round < 5; round++) {
+            WishLimits wishes = Checks.of("a below b", "b about 8 cm", "c small", "a at least 8 cm",
+                    "b at most 9 cm");
+            long before = threads.getCurrentThreadAllocatedBytes();
+            for (int k = 0; k < 12; k++) {
+                everyCallOf(wishes);
+            }
+            least = Math.min(least, threads.getCurrentThreadAllocatedBytes() - before);
+        }
+        checks.holds("all calls, twelve times: " + least + " bytes", least == 0);
+    }
+
+    private static int everyCallOf(WishLimits x) {
+        int sum = x.type('d') + x.type(' ') + x.fault(0) + x.fault(1) + x.clearText() + x.type('e')
+                + x.type(' ') + x.type('s') + x.type('m') + x.type('a') + x.type('l') + x.type('l');
+        sum += x.could() + x.say() + x.weigh(0, 2) + x.set(1, 90) + x.sentenceOf(1, 6);
+        sum += x.range(0, 0) + x.middle(1, 1) + x.reason(0, 1) + x.clash() + x.clashes() + x.keep(0);
+        sum += x.broken(80, 81, 5, 0, 0) + x.with(0, 80, 1) + x.count(3) + x.undo() + x.takeBack(0);
+        return sum + x.undo() + x.clearText();
     }
 
     /** The dearest calls of a whole run stay far below the room of a run. */
